@@ -808,7 +808,7 @@ public final class MilkTrain {
     /** Seeks the way to the city on which a churn sours least. */
     private static final class WayFinder {
         private static final int ALL_STOPS = MAX_TRAINS * MAX_STOPS;
-        private static final int NOT_REACHED = Integer.MAX_VALUE;
+        private static final int NOT_REACHED = 0x7FFFFFFF;
         // A cost is souring * COST_OF_ONE + trains: one number puts souring ahead of trains.
         private static final int COST_OF_ONE = 100;
 
@@ -936,7 +936,7 @@ public final class MilkTrain {
     private static final class Loading {
         private static final int LEFT = MAX_TRAINS;
         private static final int CHOICES = MAX_TRAINS + 1;
-        private static final long NO_WAY = Long.MAX_VALUE;
+        private static final long NO_WAY = 0x7FFFFFFFFFFFFFFFL;
         // One number holds all that is compared: lost pints, then souring, then the churns' trains
         // as digits. CHOICES to the power of MAX_CHURNS stands above all such digits.
         private static final long COST_OF_SOURING = 3486784401L;

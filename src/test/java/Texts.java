@@ -2,7 +2,7 @@ import java.nio.charset.StandardCharsets;
 
 /** Puts texts on the tape of an office. */
 final class Texts {
-    /** Two ways from 3 to the city: train c alone, or train b with a change at 2 to a. */
+    /** Two ways from 3 to the city: train b alone, or train c with a change at 2 to a. */
     static final String THREE = "train a carries 1: 1 at 60, 2 at 90, 0 at 120;\n"
         + "train b carries 2: 2 at 100, 3 at 110, 0 at 190;"
         + "train c carries 3: 3 at 0, 2 at 50;";
