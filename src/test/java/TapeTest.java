@@ -24,6 +24,16 @@ final class TapeTest {
         CHECKS.due("new souring()", x.souring(), 0);
         CHECKS.due("new load(0)", x.load(0), -1);
         CHECKS.due("new recall(0)", x.recall(0), 0);
+        CHECKS.due("new alone(0)", x.alone(0), -1);
+        CHECKS.due("new way(0, 0)", x.way(0, 0), -1);
+        CHECKS.due("new by(0, 0)", x.by(0, 0), -1);
+        CHECKS.due("new bottling(0, 0)", x.bottling(0, 0), -1);
+        CHECKS.due("new recalled(0, 0)", x.recalled(0, 0), -1);
+        CHECKS.due("new untell(0)", x.untell(0), false);
+        CHECKS.due("new pour(0, 0)", x.pour(0, 0), -1);
+        CHECKS.due("new bottle(0, 1)", x.bottle(0, 1), -1);
+        CHECKS.due("new lead(0, 1, 1)", x.lead(0, 1, 1), -1);
+        CHECKS.due("new timetable()", x.timetable(), 0);
         for (int tank = 0; tank < 4; tank++) {
             CHECKS.due("new tank(" + tank + ", 0)", x.tank(tank, 0), 0);
             CHECKS.due("new tank(" + tank + ", 1)", x.tank(tank, 1), 0);
