@@ -22,17 +22,12 @@ final class ChurnEdgesTest {
         noneWithoutAWay();
         whatsOfAWay();
         byOneTrain();
+        eightTrainsOfEightStops();
         CHECKS.end();
     }
 
-    private static void way(String call, MilkTrain x, int churn, int souring, int end, int trains) {
-        CHECKS.due(call + ": alone", x.alone(churn), souring);
-        CHECKS.due(call + ": way 0", x.way(churn, 0), end);
-        CHECKS.due(call + ": way 1", x.way(churn, 1), trains);
-    }
-
     private static void noWay(String call, MilkTrain x, int churn) {
-        way(call, x, churn, -1, -1, -1);
+        CHECKS.way(call, x, churn, -1, -1, -1);
     }
 
     // "CHURNS, 10 at most"; promise 12: "its number; NONE, doing nothing, .. or there are 10"
@@ -129,24 +124,24 @@ final class ChurnEdgesTest {
         MilkTrain x = Texts.office("train a carries 9:1 at 100,0 at 101;");
         for (int ready : new int[] {0, 1, 99, 100}) {
             int churn = x.churn(0, 1, ready, 1);
-            way("ready at " + ready, x, churn, 6 * (101 - ready), 101, 1);
+            CHECKS.way("ready at " + ready, x, churn, 6 * (101 - ready), 101, 1);
         }
     }
 
     // "it may board a train at its stop there, at that minute or a later one"
     private static void boardsAtReadyOrLater() {
         MilkTrain x = Texts.office("train a carries 9:1 at 10,0 at 20;train b carries 9:2 at 10,0 at 20;");
-        way("a minute ahead", x, x.churn(0, 1, 9, 1), 66, 20, 1);
-        way("at the very minute", x, x.churn(0, 1, 10, 1), 60, 20, 1);
+        CHECKS.way("a minute ahead", x, x.churn(0, 1, 9, 1), 66, 20, 1);
+        CHECKS.way("at the very minute", x, x.churn(0, 1, 10, 1), 60, 20, 1);
         noWay("a minute behind", x, x.churn(0, 1, 11, 1));
         noWay("at a station without a train", x, x.churn(0, 3, 0, 1));
         x.delay(0, 1);
-        way("a minute behind, by a delay", x, 2, 60, 21, 1);
+        CHECKS.way("a minute behind, by a delay", x, 2, 60, 21, 1);
         MilkTrain first = Texts.office("train a carries 9:1 at 0,0 at 1439;");
-        way("at minute 0", first, first.churn(0, 1, 0, 1), 6 * 1439, 1439, 1);
+        CHECKS.way("at minute 0", first, first.churn(0, 1, 0, 1), 6 * 1439, 1439, 1);
         first.delay(0, 300);
         noWay("at minute 301", first, first.churn(0, 1, 301, 1));
-        way("at minute 300", first, first.churn(0, 1, 300, 1), 6 * 1439, 1739, 1);
+        CHECKS.way("at minute 300", first, first.churn(0, 1, 300, 1), 6 * 1439, 1739, 1);
     }
 
     // "and leave it at a later stop of it"
@@ -156,7 +151,7 @@ final class ChurnEdgesTest {
         noWay("the last stop", x, x.churn(0, 2, 0, 1));
         MilkTrain y = Texts.office("train a carries 9:1 at 1,2 at 2,3 at 3,4 at 4,5 at 5,6 at 6,7 at 7,0 at 8;");
         for (int station = 1; station < 8; station++) {
-            way("from " + station, y, y.churn(0, station, station, 1), 6 * (8 - station), 8, 1);
+            CHECKS.way("from " + station, y, y.churn(0, station, station, 1), 6 * (8 - station), 8, 1);
         }
     }
 
@@ -166,9 +161,9 @@ final class ChurnEdgesTest {
         x.churn(0, 1, 0, 1);
         noWay("a minute ahead", x, 0);
         x.delay(0, 1);
-        way("at the very minute", x, 0, 366, 61, 2);
+        CHECKS.way("at the very minute", x, 0, 366, 61, 2);
         x.delay(0, 2);
-        way("a minute later", x, 0, 372, 62, 2);
+        CHECKS.way("a minute later", x, 0, 372, 62, 2);
         x.delay(1, 3);
         noWay("the first one later still", x, 0);
     }
@@ -179,7 +174,7 @@ final class ChurnEdgesTest {
         x.warmth(0, 4);
         x.churn(0, 1, 0, 1);
         x.cooler(0, true);
-        way("not over the city and back", x, 0, 0, 10, 1);
+        CHECKS.way("not over the city and back", x, 0, 0, 10, 1);
     }
 
     // "as if no other one rode"
@@ -189,7 +184,7 @@ final class ChurnEdgesTest {
             x.churn(0, 1, 0, 1);
         }
         for (int churn = 0; churn < 10; churn++) {
-            way("churn " + churn, x, churn, 60, 10, 1);
+            CHECKS.way("churn " + churn, x, churn, 60, 10, 1);
         }
     }
 
@@ -197,22 +192,22 @@ final class ChurnEdgesTest {
     private static void theLeastSouring() {
         MilkTrain x = Texts.office("train a carries 9:1 at 0,2 at 1,0 at 100;train b carries 9:2 at 100,0 at 101;");
         x.churn(0, 1, 0, 1);
-        way("earlier and with fewer trains", x, 0, 600, 100, 1);
+        CHECKS.way("earlier and with fewer trains", x, 0, 600, 100, 1);
         x.cooler(2, true);
-        way("later and with more trains", x, 0, 6 + 99 + 6, 101, 2);
+        CHECKS.way("later and with more trains", x, 0, 6 + 99 + 6, 101, 2);
         // Of warmth 5 a minute's souring is 1, and a ride less by one minute is less by just 1.
         MilkTrain y = Texts.office("train a carries 9:1 at 0,0 at 60;train b carries 9:1 at 59,0 at 61;");
         y.warmth(0, 5);
         y.cooler(1, true);
         y.churn(0, 1, 0, 1);
-        way("cooled for 59 minutes", y, 0, 2, 61, 1);
+        CHECKS.way("cooled for 59 minutes", y, 0, 2, 61, 1);
         String one = "train a carries 9:1 at 0,0 at 20;";
         String two = "train b carries 9:1 at 0,2 at 1;train c carries 9:2 at 10,0 at 20;";
         for (String text : new String[] {one + two, two + one}) {
             MilkTrain z = Texts.office(text);
             z.cooler(2, true);
             z.churn(0, 1, 0, 1);
-            way("of one end, with more trains", z, 0, 6 + 9 + 60, 20, 2);
+            CHECKS.way("of one end, with more trains", z, 0, 6 + 9 + 60, 20, 2);
         }
     }
 
@@ -224,7 +219,7 @@ final class ChurnEdgesTest {
             MilkTrain x = Texts.office(text);
             x.warmth(0, 4);
             x.churn(0, 1, 0, 1);
-            way("a minute earlier, with more trains", x, 0, 0, 10, 2);
+            CHECKS.way("a minute earlier, with more trains", x, 0, 0, 10, 2);
         }
     }
 
@@ -235,12 +230,12 @@ final class ChurnEdgesTest {
         for (String text : texts) {
             MilkTrain x = Texts.office(text);
             x.churn(0, 1, 0, 1);
-            way("one train, not two", x, 0, 60, 10, 1);
+            CHECKS.way("one train, not two", x, 0, 60, 10, 1);
         }
         MilkTrain y = Texts.office("train a carries 9:1 at 0,2 at 1,3 at 2;train b carries 9:2 at 1,3 at 2,0 at 3;"
             + "train c carries 9:1 at 0,4 at 1;train d carries 9:4 at 1,3 at 2;");
         y.churn(0, 1, 0, 1);
-        way("two trains, not three", y, 0, 18, 3, 2);
+        CHECKS.way("two trains, not three", y, 0, 18, 3, 2);
     }
 
     // Promises 14 and 15: "NONE if there is no way, or no such CHURN"; "NONE likewise"
@@ -255,13 +250,13 @@ final class ChurnEdgesTest {
         noWay("no train to the city", x, 0);
         Texts.put(x, "train a carries 9:1 at 0,0 at 10;");
         x.timetable();
-        way("a way", x, 0, 60, 10, 1);
+        CHECKS.way("a way", x, 0, 60, 10, 1);
         noWay("no churn 1", x, 1);
         noWay("no churn 10", x, 10);
         noWay("no churn least", x, Integer.MIN_VALUE);
         noWay("no churn most", x, Integer.MAX_VALUE);
         x.warmth(0, 4);
-        way("a way without souring", x, 0, 0, 10, 1);
+        CHECKS.way("a way without souring", x, 0, 0, 10, 1);
     }
 
     // Promise 15: "what 0: the minute at which it ends, 1: how many trains"
@@ -299,5 +294,30 @@ final class ChurnEdgesTest {
             CHECKS.due("by(" + wrong + ", 0)", x.by(wrong, 0), -1);
         }
         CHECKS.due("by(0, 0) of nothing", new MilkTrain().by(0, 0), -1);
+    }
+
+    // As many as there can be: "At most 8 trains, 8 stops each"
+    private static void eightTrainsOfEightStops() {
+        StringBuilder text = new StringBuilder();
+        for (int t = 0; t < 8; t++) {
+            text.append("train ").append((char) ('a' + t)).append(" carries 1:");
+            for (int k = 0; k < 8; k++) {
+                text.append(k == 0 ? "" : ",").append((k + 1) % 8).append(" at ").append(10 * k + t);
+            }
+            text.append(';');
+        }
+        MilkTrain x = Texts.office(text.toString());
+        CHECKS.due("train(7, 17)", x.train(7, 17), 0);
+        CHECKS.due("train(7, 27)", x.train(7, 27), 77);
+        for (int t = 0; t < 8; t++) {
+            int churn = x.churn(0, 7, 60 + t, 1);
+            CHECKS.way("ready for train " + t, x, churn, 60, 70 + t, 1);
+            CHECKS.due("by train " + t, x.by(churn, t), 60);
+            CHECKS.due("by the train ahead of " + t, x.by(churn, t - 1), -1);
+        }
+        CHECKS.way("ready at the first stop", x, x.churn(0, 1, 0, 1), 420, 70, 1);
+        noWay("ready behind the last stop", x, x.churn(0, 7, 68, 1));
+        CHECKS.due("lost", x.lost(), 2);
+        CHECKS.due("souring", x.souring(), 480);
     }
 }

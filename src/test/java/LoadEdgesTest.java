@@ -18,28 +18,21 @@ final class LoadEdgesTest {
         thenTheFirstByTrains();
         leftBehindAllTrains();
         churnsThatAre();
+        whicheverIsAskedFirst();
         CHECKS.end();
-    }
-
-    private static void best(String call, MilkTrain x, int lost, int souring, int... trains) {
-        CHECKS.due(call + ": lost", x.lost(), lost);
-        CHECKS.due(call + ": souring", x.souring(), souring);
-        for (int churn = 0; churn < trains.length; churn++) {
-            CHECKS.due(call + ": load(" + churn + ")", x.load(churn), trains[churn]);
-        }
     }
 
     // Nothing there yet: no churn, no train
     private static void nothingToLoad() {
         MilkTrain x = new MilkTrain();
-        best("nothing", x, 0, 0);
+        CHECKS.best("nothing", x, 0, 0);
         x.churn(0, 1, 0, 100);
-        best("no train", x, 100, 0, LEFT);
-        best("no churn", Texts.office(Texts.THREE), 0, 0);
+        CHECKS.best("no train", x, 100, 0, LEFT);
+        CHECKS.best("no churn", Texts.office(Texts.THREE), 0, 0);
         for (int churn = 1; churn < 10; churn++) {
             x.churn(0, 1, 0, 100);
         }
-        best("ten churns and no train", x, 1000, 0, LEFT, LEFT, LEFT, LEFT, LEFT, LEFT, LEFT, LEFT, LEFT, LEFT);
+        CHECKS.best("ten churns and no train", x, 1000, 0, LEFT, LEFT, LEFT, LEFT, LEFT, LEFT, LEFT, LEFT, LEFT, LEFT);
     }
 
     // "each churn rides on one train from its station to the CITY .. or is LEFT"
@@ -47,9 +40,9 @@ final class LoadEdgesTest {
         MilkTrain x = Texts.office("train a carries 9:1 at 0,2 at 5;train b carries 9:2 at 5,0 at 10;");
         x.churn(0, 1, 0, 3);
         CHECKS.due("there is a way with a change", x.way(0, 1), 2);
-        best("no train alone", x, 3, 0, LEFT);
+        CHECKS.best("no train alone", x, 3, 0, LEFT);
         x.churn(0, 2, 5, 4);
-        best("one that has a train", x, 3, 30, LEFT, 1);
+        CHECKS.best("one that has a train", x, 3, 30, LEFT, 1);
     }
 
     // "(a train that stops at its station when it is ready or later, and then at the CITY)"
@@ -60,9 +53,9 @@ final class LoadEdgesTest {
         x.churn(0, 1, 11, 4);
         x.churn(0, 3, 0, 8);
         x.churn(0, 4, 0, 16);
-        best("ready at 9, 10, 11; behind the city; elsewhere", x, 28, 126, 0, 0, LEFT, LEFT, LEFT);
+        CHECKS.best("ready at 9, 10, 11; behind the city; elsewhere", x, 28, 126, 0, 0, LEFT, LEFT, LEFT);
         x.delay(0, 1);
-        best("a minute later", x, 24, 72 + 66 + 60, 0, 0, 0, LEFT, LEFT);
+        CHECKS.best("a minute later", x, 24, 72 + 66 + 60, 0, 0, 0, LEFT, LEFT);
     }
 
     // "No train carries more churns than told"
@@ -73,7 +66,7 @@ final class LoadEdgesTest {
                 x.churn(0, 1, 0, 7);
             }
             int rides = Math.min(3, carries);
-            best("carries " + carries, x, 7 * (3 - rides), 60 * rides, rides > 0 ? 0 : LEFT, rides > 1 ? 0 : LEFT,
+            CHECKS.best("carries " + carries, x, 7 * (3 - rides), 60 * rides, rides > 0 ? 0 : LEFT, rides > 1 ? 0 : LEFT,
                 rides > 2 ? 0 : LEFT);
         }
     }
@@ -86,7 +79,7 @@ final class LoadEdgesTest {
                 x.churn(0, 1, 0, 100);
             }
             int rides = Math.min(10, carries);
-            best("ten, carries " + carries, x, 100 * (10 - rides), 60 * rides);
+            CHECKS.best("ten, carries " + carries, x, 100 * (10 - rides), 60 * rides);
             for (int churn = 0; churn < 10; churn++) {
                 CHECKS.due("load(" + churn + ")", x.load(churn), churn < rides ? 0 : LEFT);
             }
@@ -98,11 +91,11 @@ final class LoadEdgesTest {
         MilkTrain x = Texts.office("train a carries 9:1 at 0,0 at 10;");
         x.churn(0, 1, 0, 5);
         x.limit(61);
-        best("soured 60 of 61", x, 0, 60, 0);
+        CHECKS.best("soured 60 of 61", x, 0, 60, 0);
         x.limit(60);
-        best("soured 60 of 60", x, 5, 0, LEFT);
+        CHECKS.best("soured 60 of 60", x, 5, 0, LEFT);
         x.limit(59);
-        best("soured 60 of 59", x, 5, 0, LEFT);
+        CHECKS.best("soured 60 of 59", x, 5, 0, LEFT);
         CHECKS.due("by(0, 0), sour or not", x.by(0, 0), 60);
         CHECKS.due("alone(0), sour or not", x.alone(0), 60);
     }
@@ -114,7 +107,7 @@ final class LoadEdgesTest {
             x.warmth(0, 5);
             x.churn(0, 1, 0, 5);
             boolean rides = minutes < 1000;
-            best("soured " + minutes, x, rides ? 0 : 5, rides ? minutes : 0, rides ? 0 : LEFT);
+            CHECKS.best("soured " + minutes, x, rides ? 0 : 5, rides ? minutes : 0, rides ? 0 : LEFT);
         }
     }
 
@@ -126,18 +119,18 @@ final class LoadEdgesTest {
         x.delay(0, 300);
         int most = 36 * 1739;
         x.limit(100000);
-        best("the most that can be", x, 0, most, 0);
+        CHECKS.best("the most that can be", x, 0, most, 0);
         x.limit(most + 1);
-        best("a limit just above it", x, 0, most, 0);
+        CHECKS.best("a limit just above it", x, 0, most, 0);
         x.limit(most);
-        best("a limit at it", x, 5, 0, LEFT);
+        CHECKS.best("a limit at it", x, 5, 0, LEFT);
         x.limit(1);
         x.warmth(0, 4);
-        best("souring 0 of 1", x, 0, 0, 0);
+        CHECKS.best("souring 0 of 1", x, 0, 0, 0);
         x.warmth(23, 5);
         x.warmth(22, 4);
         x.cooler(1, true);
-        best("souring 1 of 1", x, 5, 0, LEFT);
+        CHECKS.best("souring 1 of 1", x, 5, 0, LEFT);
         CHECKS.due("by(0, 0)", x.by(0, 0), 1);
     }
 
@@ -149,7 +142,7 @@ final class LoadEdgesTest {
         x.churn(0, 1, 10, 2);
         x.churn(0, 2, 0, 4);
         x.churn(0, 2, 1, 8);
-        best("one left, one sour", x, 5, 60 + 114, LEFT, 0, LEFT, 1);
+        CHECKS.best("one left, one sour", x, 5, 60 + 114, LEFT, 0, LEFT, 1);
     }
 
     // "BEST has the least LOST"
@@ -159,12 +152,12 @@ final class LoadEdgesTest {
         x.warmth(0, 40);
         x.churn(0, 1, 10, 99);
         x.churn(0, 2, 0, 100);
-        best("one pint against all souring", x, 99, 36 * 20, LEFT, 0);
+        CHECKS.best("one pint against all souring", x, 99, 36 * 20, LEFT, 0);
         MilkTrain y = Texts.office("train a carries 2:2 at 5,1 at 10,0 at 20;train b carries 1:1 at 10,0 at 20;");
         y.churn(0, 1, 0, 1);
         y.churn(0, 2, 0, 1);
         y.churn(0, 2, 0, 1);
-        best("churn 0 gives way", y, 0, 120 * 3, 1, 0, 0);
+        CHECKS.best("churn 0 gives way", y, 0, 120 * 3, 1, 0, 0);
         onePintAgainstTheMostSouring();
     }
 
@@ -177,9 +170,9 @@ final class LoadEdgesTest {
         x.delay(1, 300);
         x.cooler(1, true);
         x.churn(0, 1, 0, 100);
-        best("cooled till the end", x, 0, 9 * 1738 + 36, 0);
+        CHECKS.best("cooled till the end", x, 0, 9 * 1738 + 36, 0);
         x.churn(0, 2, 0, 1);
-        best("both ride", x, 0, 9 * 300 + 36 * 1439 + 36 * 1739, 1, 0);
+        CHECKS.best("both ride", x, 0, 9 * 300 + 36 * 1439 + 36 * 1739, 1, 0);
     }
 
     // "of like ones the least souring of all that ride, together"
@@ -187,13 +180,13 @@ final class LoadEdgesTest {
         MilkTrain x = Texts.office("train a carries 1:1 at 10,0 at 21;train b carries 1:1 at 10,2 at 11,0 at 20;");
         x.warmth(0, 5);
         x.churn(0, 1, 10, 10);
-        best("less by 1", x, 0, 10, 1);
+        CHECKS.best("less by 1", x, 0, 10, 1);
         x.churn(0, 2, 11, 10);
-        best("together, with more for churn 0", x, 0, 11 + 9, 0, 1);
+        CHECKS.best("together, with more for churn 0", x, 0, 11 + 9, 0, 1);
         x.churn(0, 1, 9, 10);
-        best("of like pints the one that sours less rides", x, 10, 11 + 9, 0, 1, LEFT);
+        CHECKS.best("of like pints the one that sours less rides", x, 10, 11 + 9, 0, 1, LEFT);
         x.churn(0, 1, 9, 11);
-        best("of more pints the other", x, 20, 12 + 9, LEFT, 1, LEFT, 0);
+        CHECKS.best("of more pints the other", x, 20, 12 + 9, LEFT, 1, LEFT, 0);
     }
 
     // "of like ones the first by the trains of churn 0, 1, .. (the least numbers ..)"
@@ -206,16 +199,16 @@ final class LoadEdgesTest {
         for (int churn = 0; churn < 10; churn++) {
             x.churn(0, 1, 0, 7);
         }
-        best("eight of ten", x, 14, 480, 0, 1, 2, 3, 4, 5, 6, 7, LEFT, LEFT);
+        CHECKS.best("eight of ten", x, 14, 480, 0, 1, 2, 3, 4, 5, 6, 7, LEFT, LEFT);
         MilkTrain y = Texts.office("train a carries 1:1 at 0,0 at 10;train b carries 1:1 at 0,0 at 10;");
         y.churn(0, 1, 0, 7);
-        best("one of like trains", y, 0, 60, 0);
+        CHECKS.best("one of like trains", y, 0, 60, 0);
         y.churn(0, 1, 0, 7);
-        best("two on like trains", y, 0, 120, 0, 1);
+        CHECKS.best("two on like trains", y, 0, 120, 0, 1);
         MilkTrain z = Texts.office("train a carries 1:1 at 0,2 at 1,0 at 10;train b carries 1:1 at 0,2 at 1,0 at 10;");
         z.churn(0, 2, 1, 7);
         z.churn(0, 1, 0, 7);
-        best("churn 0 first", z, 0, 54 + 60, 0, 1);
+        CHECKS.best("churn 0 first", z, 0, 54 + 60, 0, 1);
         laterChurnsMoveTheFirstOnesLast();
     }
 
@@ -224,21 +217,21 @@ final class LoadEdgesTest {
         MilkTrain x = Texts.office("train a carries 2:1 at 0,2 at 1,0 at 10;train b carries 9:1 at 0,0 at 10;");
         x.churn(0, 1, 0, 7);
         x.churn(0, 1, 0, 7);
-        best("two on the first train", x, 0, 120, 0, 0);
+        CHECKS.best("two on the first train", x, 0, 120, 0, 0);
         x.churn(0, 2, 1, 7);
-        best("churn 1 moves", x, 0, 60 + 60 + 54, 0, 1, 0);
+        CHECKS.best("churn 1 moves", x, 0, 60 + 60 + 54, 0, 1, 0);
         MilkTrain y = Texts.office("train a carries 2:1 at 0,0 at 10;");
         y.churn(0, 1, 0, 7);
         y.churn(0, 1, 0, 7);
         y.churn(0, 1, 0, 8);
-        best("churn 1 is left", y, 7, 120, 0, LEFT, 0);
+        CHECKS.best("churn 1 is left", y, 7, 120, 0, LEFT, 0);
         MilkTrain z = Texts.office("train a carries 1:1 at 0,2 at 1,0 at 10;train b carries 1:2 at 1,1 at 2,0 at 10;"
             + "train c carries 1:1 at 2,0 at 10;train d carries 1:2 at 1,0 at 10;");
         z.churn(0, 1, 0, 7);
         z.churn(0, 2, 0, 7);
-        best("the least for churn 0, whatever for churn 1", z, 0, 120, 0, 1);
+        CHECKS.best("the least for churn 0, whatever for churn 1", z, 0, 120, 0, 1);
         z.churn(0, 2, 0, 7);
-        best("and for churn 1 ahead of churn 2", z, 0, 180, 0, 1, 3);
+        CHECKS.best("and for churn 1 ahead of churn 2", z, 0, 180, 0, 1, 3);
     }
 
     // "LEFT behind all trains"
@@ -247,13 +240,13 @@ final class LoadEdgesTest {
         MilkTrain x = Texts.office(Reading.trains(7) + "train z carries 1:1 at 0,0 at 10;");
         x.churn(0, 1, 0, 7);
         x.churn(0, 1, 0, 7);
-        best("one place, on the last train", x, 7, 60, 7, LEFT);
+        CHECKS.best("one place, on the last train", x, 7, 60, 7, LEFT);
         MilkTrain y = Texts.office("train a carries 1:1 at 0,0 at 10;");
         y.warmth(0, 4);
         y.churn(0, 1, 0, 7);
         y.churn(0, 1, 0, 7);
         y.churn(0, 1, 0, 7);
-        best("one place for three alike", y, 14, 0, 0, LEFT, LEFT);
+        CHECKS.best("one place for three alike", y, 14, 0, 0, LEFT, LEFT);
     }
 
     // Promise 19: "NONE if it is LEFT, or there is none such"
@@ -267,5 +260,34 @@ final class LoadEdgesTest {
         for (int churn : new int[] {-1, 2, 9, 10, Integer.MIN_VALUE, Integer.MAX_VALUE}) {
             CHECKS.due("load(" + churn + ")", x.load(churn), -1);
         }
+    }
+
+    // Promises 17 to 19: each answers of BEST as things are, also when it is the first one asked
+    private static void whicheverIsAskedFirst() {
+        MilkTrain x = Texts.office("train a carries 1:1 at 0,0 at 10;train b carries 1:1 at 0,0 at 12;");
+        x.churn(0, 1, 0, 7);
+        x.churn(0, 1, 0, 6);
+        CHECKS.due("souring() first", x.souring(), 60 + 72);
+        x.delay(0, 3);
+        CHECKS.due("souring() after a delay", x.souring(), 72 + 78);
+        x.limit(75);
+        CHECKS.due("load(0) after a limit", x.load(0), 1);
+        x.warmth(0, 5);
+        CHECKS.due("load(1) after a warmth", x.load(1), 1);
+        x.churn(0, 1, 0, 8);
+        CHECKS.due("load(1) after a churn", x.load(1), LEFT);
+        x.limit(1);
+        CHECKS.due("lost() after a limit", x.lost(), 21);
+        x.warmth(0, 0);
+        CHECKS.due("lost() after a warmth", x.lost(), 6);
+        x.warmth(0, 8);
+        x.limit(100);
+        CHECKS.due("souring() after both", x.souring(), 4 * (13 + 12));
+        x.cooler(1, true);
+        CHECKS.due("souring() after a cooler", x.souring(), 3 + 4 * 10 + 4 * 12);
+        x.timetable();
+        CHECKS.due("souring() after a timetable", x.souring(), 0);
+        CHECKS.due("load(0) after a timetable", x.load(0), LEFT);
+        CHECKS.due("lost() after a timetable", x.lost(), 21);
     }
 }

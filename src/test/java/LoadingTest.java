@@ -17,11 +17,7 @@ final class LoadingTest {
     }
 
     private static void best(String call, MilkTrain x, int lost, int souring, int... trains) {
-        CHECKS.due(call + ": lost", x.lost(), lost);
-        CHECKS.due(call + ": souring", x.souring(), souring);
-        for (int churn = 0; churn < trains.length; churn++) {
-            CHECKS.due(call + ": load(" + churn + ")", x.load(churn), trains[churn]);
-        }
+        CHECKS.best(call, x, lost, souring, trains);
         CHECKS.due(call + ": load behind all", x.load(trains.length), -1);
         CHECKS.due(call + ": load(-1)", x.load(-1), -1);
     }

@@ -12,19 +12,6 @@ final class TanksTest {
         CHECKS.end();
     }
 
-    private static MilkTrain office(int... pints) {
-        MilkTrain x = new MilkTrain();
-        for (int farm = 0; farm < pints.length; farm++) {
-            x.churn(farm, 1, 0, pints[farm]);
-        }
-        return x;
-    }
-
-    private static void tank(String call, MilkTrain x, int tank, int pints, int farms) {
-        CHECKS.due(call + ": pints of " + tank, x.tank(tank, 0), pints);
-        CHECKS.due(call + ": farms of " + tank, x.tank(tank, 1), farms);
-    }
-
     private static void theClock() {
         MilkTrain x = new MilkTrain();
         CHECKS.due("later(0)", x.later(0), 0);
@@ -43,7 +30,7 @@ final class TanksTest {
     }
 
     private static void pouring() {
-        MilkTrain x = office(10, 20, 30);
+        MilkTrain x = Texts.withChurns(10, 20, 30);
         CHECKS.due("pour(0, 4)", x.pour(0, 4), -1);
         CHECKS.due("pour(0, -1)", x.pour(0, -1), -1);
         CHECKS.due("pour(3, 0)", x.pour(3, 0), -1);
@@ -54,8 +41,8 @@ final class TanksTest {
         CHECKS.due("pour(1, 3) again", x.pour(1, 3), -1);
         CHECKS.due("pour(1, 2) again", x.pour(1, 2), -1);
         CHECKS.due("of(1, 4)", x.of(1, 4), 3);
-        tank("poured", x, 3, 30, 3);
-        tank("not poured", x, 2, 0, 0);
+        CHECKS.tank("poured", x, 3, 30, 3);
+        CHECKS.tank("not poured", x, 2, 0, 0);
         CHECKS.due("tank(3, 2)", x.tank(3, 2), -1);
         CHECKS.due("tank(3, -1)", x.tank(3, -1), -1);
         CHECKS.due("tank(4, 0)", x.tank(4, 0), -1);
@@ -63,22 +50,22 @@ final class TanksTest {
     }
 
     private static void tooManyPints() {
-        MilkTrain x = office(100, 100, 100, 100, 100, 100, 100, 100, 100, 100);
+        MilkTrain x = Texts.withChurns(100, 100, 100, 100, 100, 100, 100, 100, 100, 100);
         for (int churn = 0; churn < 10; churn++) {
             CHECKS.due("pour(" + churn + ", 0)", x.pour(churn, 0), 100 * (churn + 1));
         }
         // Ten full churns just fill a tank, so no pour and no lead can overflow one.
-        tank("full", x, 0, 1000, 1023);
+        CHECKS.tank("full", x, 0, 1000, 1023);
         CHECKS.due("lead(0, 1, 1001)", x.lead(0, 1, 1001), -1);
         CHECKS.due("lead(0, 1, 1000)", x.lead(0, 1, 1000), 0);
-        tank("led wholly", x, 0, 0, 0);
-        tank("filled by leading", x, 1, 1000, 1023);
+        CHECKS.tank("led wholly", x, 0, 0, 0);
+        CHECKS.tank("filled by leading", x, 1, 1000, 1023);
         CHECKS.due("bottle(1, 1000)", x.bottle(1, 1000), 0);
-        tank("bottled", x, 1, 0, 0);
+        CHECKS.tank("bottled", x, 1, 0, 0);
     }
 
     private static void leading() {
-        MilkTrain x = office(10, 20, 30);
+        MilkTrain x = Texts.withChurns(10, 20, 30);
         x.pour(0, 0);
         x.pour(1, 1);
         int[][] wrong = {{0, 0, 1}, {0, 1, 0}, {0, 1, -1}, {0, 1, 11}, {2, 1, 1}, {-1, 1, 1}, {4, 1, 1}, {0, -1, 1},
@@ -86,22 +73,22 @@ final class TanksTest {
         for (int[] w : wrong) {
             CHECKS.due("lead" + java.util.Arrays.toString(w), x.lead(w[0], w[1], w[2]), -1);
         }
-        tank("nothing led", x, 0, 10, 1);
-        tank("nothing led", x, 1, 20, 2);
+        CHECKS.tank("nothing led", x, 0, 10, 1);
+        CHECKS.tank("nothing led", x, 1, 20, 2);
         CHECKS.due("lead(0, 1, 4)", x.lead(0, 1, 4), 6);
-        tank("led", x, 0, 6, 1);
-        tank("led", x, 1, 24, 3);
+        CHECKS.tank("led", x, 0, 6, 1);
+        CHECKS.tank("led", x, 1, 24, 3);
         x.pour(2, 0);
-        tank("as they were then", x, 1, 24, 3);
+        CHECKS.tank("as they were then", x, 1, 24, 3);
         CHECKS.due("lead(1, 2, 24)", x.lead(1, 2, 24), 0);
-        tank("empty", x, 1, 0, 0);
-        tank("from the led one", x, 2, 24, 3);
+        CHECKS.tank("empty", x, 1, 0, 0);
+        CHECKS.tank("from the led one", x, 2, 24, 3);
         CHECKS.due("lead(0, 1, 1)", x.lead(0, 1, 1), 35);
-        tank("anew since it was empty", x, 1, 1, 5);
+        CHECKS.tank("anew since it was empty", x, 1, 1, 5);
     }
 
     private static void bottlings() {
-        MilkTrain x = office(10, 20);
+        MilkTrain x = Texts.withChurns(10, 20);
         CHECKS.due("bottle of an empty tank", x.bottle(0, 1), -1);
         x.pour(0, 0);
         CHECKS.due("bottle(0, 0)", x.bottle(0, 0), -1);
@@ -112,11 +99,11 @@ final class TanksTest {
         CHECKS.due("about(3)", x.about(3), 0);
         x.later(3);
         CHECKS.due("bottle(0, 4)", x.bottle(0, 4), 0);
-        tank("less", x, 0, 6, 1);
+        CHECKS.tank("less", x, 0, 6, 1);
         x.pour(1, 0);
         x.later(4);
         CHECKS.due("bottle(0, 26)", x.bottle(0, 26), 1);
-        tank("all bottled", x, 0, 0, 0);
+        CHECKS.tank("all bottled", x, 0, 0, 0);
         int[][] want = {{4, 1, 3, -1}, {26, 3, 7, -1}};
         for (int k = 0; k < 2; k++) {
             for (int what = 0; what < 4; what++) {
@@ -129,13 +116,13 @@ final class TanksTest {
     }
 
     private static void fortyBottlings() {
-        MilkTrain x = office(100);
+        MilkTrain x = Texts.withChurns(100);
         x.pour(0, 2);
         for (int k = 0; k < 40; k++) {
             CHECKS.due("bottle no. " + k, x.bottle(2, 1), k);
         }
         CHECKS.due("a 41st bottling", x.bottle(2, 1), -1);
-        tank("nothing drawn", x, 2, 60, 1);
+        CHECKS.tank("nothing drawn", x, 2, 60, 1);
         CHECKS.due("about(3)", x.about(3), 40);
     }
 }

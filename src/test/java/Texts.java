@@ -1,6 +1,6 @@
 import java.nio.charset.StandardCharsets;
 
-/** Puts texts on the tape of an office. */
+/** Makes offices, and puts texts on their tapes. */
 final class Texts {
     /** Two ways from 3 to the city: train b alone, or train c with a change at 2 to a. */
     static final String THREE = "train a carries 1: 1 at 60, 2 at 90, 0 at 120;\n"
@@ -16,6 +16,15 @@ final class Texts {
         put(office, text);
         if (office.timetable() < 0) {
             throw new IllegalStateException("fault " + office.fault(0) + " at " + office.fault(1) + ": " + text);
+        }
+        return office;
+    }
+
+    /** An office without trains, with churns of farms 0, 1, .. and of these pints. */
+    static MilkTrain withChurns(int... pints) {
+        MilkTrain office = new MilkTrain();
+        for (int farm = 0; farm < pints.length; farm++) {
+            office.churn(farm, 1, 0, pints[farm]);
         }
         return office;
     }
